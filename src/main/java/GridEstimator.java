@@ -119,7 +119,7 @@ public final class GridEstimator {
 
     public boolean isObservable(int bus) throws IndexOutOfBoundsException {
         requireBus(bus);
-        return observation.sufficesWithout(NONE, grid.references[bus]);
+        return observation.suffices(grid.references[bus]);
     }
 
     public boolean isCritical(int meter) throws IndexOutOfBoundsException {
@@ -216,7 +216,7 @@ public final class GridEstimator {
     }
 
     private void requireObservable(int reference) {
-        if (!observation.sufficesWithout(NONE, reference)) {
+        if (!observation.suffices(reference)) {
             throw new IllegalStateException("the island is not observable");
         }
     }
@@ -243,10 +243,13 @@ public final class GridEstimator {
         private final boolean[] isClosed = new boolean[MOST_LINES];
         // A place beyond the last bus keeps its own number, so it is in no island of a bus.
         private final int[] references = new int[MOST_BUSES];
+        // By how much a flow, or an injection, grows when the angle of a bus grows by 1.
+        private final int[][] flowGrowths = new int[MOST_LINES][MOST_BUSES];
+        private final int[][] injectionGrowths = new int[MOST_BUSES][MOST_BUSES];
 
         Grid(int buses) {
             this.buses = buses;
-            findReferences();
+            followLines();
         }
 
         boolean hasBus(int bus) {
@@ -278,7 +281,7 @@ public final class GridEstimator {
             strengths[line] = strength;
             isClosed[line] = true;
             lines++;
-            findReferences();
+            followLines();
             return line;
         }
 
@@ -286,8 +289,14 @@ public final class GridEstimator {
         boolean switchTo(int line, boolean closed) {
             boolean wasClosed = isClosed[line];
             isClosed[line] = closed;
-            findReferences();
+            followLines();
             return wasClosed;
+        }
+
+        private void followLines() {
+            findReferences();
+            findFlowGrowths();
+            findInjectionGrowths();
         }
 
         private void findReferences() {
@@ -310,6 +319,26 @@ public final class GridEstimator {
             references[other] = lower;
         }
 
+        private void findFlowGrowths() {
+            for (int line = 0; line < lines; line++) {
+                int strength = isClosed[line] ? strengths[line] : 0;
+                flowGrowths[line][firsts[line]] = strength;
+                flowGrowths[line][seconds[line]] = -strength;
+            }
+        }
+
+        private void findInjectionGrowths() {
+            for (int bus = 0; bus < MOST_BUSES; bus++) {
+                for (int place = 0; place < MOST_BUSES; place++) {
+                    injectionGrowths[place][bus] = 0;
+                }
+                for (int line = 0; line < lines; line++) {
+                    injectionGrowths[firsts[line]][bus] += flowGrowths[line][bus];
+                    injectionGrowths[seconds[line]][bus] -= flowGrowths[line][bus];
+                }
+            }
+        }
+
         boolean isUnknown(int bus, int reference) {
             return references[bus] == reference && bus != reference;
         }
@@ -322,30 +351,6 @@ public final class GridEstimator {
                 }
             }
             return count;
-        }
-
-        /** Tells by how much the flow of a line grows when the angle of a bus grows by 1. */
-        int flowGrowth(int line, int bus) {
-            if (!isClosed[line]) {
-                return 0;
-            }
-            if (firsts[line] == bus) {
-                return strengths[line];
-            }
-            return seconds[line] == bus ? -strengths[line] : 0;
-        }
-
-        /** Tells by how much the injection of a place grows when the angle of a bus grows by 1. */
-        int injectionGrowth(int place, int bus) {
-            int growth = 0;
-            for (int line = 0; line < lines; line++) {
-                if (firsts[line] == place) {
-                    growth += flowGrowth(line, bus);
-                } else if (seconds[line] == place) {
-                    growth -= flowGrowth(line, bus);
-                }
-            }
-            return growth;
         }
     }
 
@@ -398,7 +403,7 @@ public final class GridEstimator {
         /** Tells by how much what a meter measures grows when the angle of a bus grows by 1. */
         int growth(int meter, int bus) {
             int place = places[meter];
-            return kinds[meter] == INJECTION ? grid.injectionGrowth(place, bus) : grid.flowGrowth(place, bus);
+            return kinds[meter] == INJECTION ? grid.injectionGrowths[place][bus] : grid.flowGrowths[place][bus];
         }
     }
 
@@ -413,13 +418,17 @@ public final class GridEstimator {
             this.meters = meters;
         }
 
-        boolean needs(int meter) {
-            int reference = meters.islandOf(meter);
-            return reference != NONE && sufficesWithout(NONE, reference) && !sufficesWithout(meter, reference);
+        boolean suffices(int reference) {
+            return rankWithout(NONE, reference) == grid.countUnknown(reference);
         }
 
-        boolean sufficesWithout(int leftOut, int reference) {
-            return rankWithout(leftOut, reference) == grid.countUnknown(reference);
+        boolean needs(int meter) {
+            int reference = meters.islandOf(meter);
+            if (reference == NONE) {
+                return false;
+            }
+            int unknown = grid.countUnknown(reference);
+            return rankWithout(NONE, reference) == unknown && rankWithout(meter, reference) < unknown;
         }
 
         int rankWithout(int leftOut, int reference) {
@@ -457,8 +466,8 @@ public final class GridEstimator {
             return false;
         }
 
-        // Entries are 8 at the most at first, and at most 2 to the 31st after three pivots: with a fourth,
-        // which leaves only zeros below it, all products fit into a long.
+        // Entries start at 8 at the most and are below 2^32 after three pivots; a fourth is the last one,
+        // so that all products fit into a long.
         private void clearBelow(int top, int bus) {
             long pivot = rows[top][bus];
             for (int row = top + 1; row < MOST_METERS; row++) {

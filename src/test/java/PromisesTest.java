@@ -155,6 +155,15 @@ public final class PromisesTest {
         due.answers("promise 3: split off", 2, () -> grid.reference(2));
         grid.setBreaker(1, true);
         due.answers("promise 3: joined again", 0, () -> grid.reference(2));
+        grid.setBreaker(1, false);
+        grid.addMeter(INJECTION, 0, 6, 1);
+        due.answers("promise 3: an injection of what is closed", -6L, () -> grid.angleNumerator(1));
+        grid.addLine(2, 0, 2);
+        grid.addMeter(FLOW, 2, 2, 1);
+        // The injection is -b - 2 c = 6, and 2 c = 2.
+        due.answers("promise 3: an injection over two lines", -8L, () -> grid.angleNumerator(1));
+        grid.setBreaker(2, false);
+        due.answers("promise 3: an injection over one line again", -6L, () -> grid.angleNumerator(1));
     }
 
     // ---- promise 4
