@@ -375,7 +375,7 @@ public final class PromisesTest {
         }
     }
 
-    /** In a ring of four the injections of opposite buses leave a sum open, which no two rows show. */
+    /** In a ring of four, rows depend on each other that are no multiples of each other. */
     private static void rankOfInjections() {
         GridEstimator grid = new GridEstimator(4);
         grid.addLine(0, 1, 1);
