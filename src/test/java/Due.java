@@ -7,10 +7,27 @@ final class Due {
         Object answer();
     }
 
-    private static final int MOST_PRINTED = 20;
+    // Of one sentence: each that is broken is to be seen.
+    private static final int MOST_PRINTED = 10;
 
+    private String sentence = "";
     private int asked = 0;
     private int wrong = 0;
+    private int printed = 0;
+
+    /** Names the sentence of the document by which the answers from here on are due. */
+    void by(String sentence) {
+        this.sentence = sentence + " | ";
+        printed = 0;
+    }
+
+    /** Runs a test; should it throw, that is told as a wrong answer, and the tests behind it are run all the same. */
+    void run(Runnable test) {
+        compare("a call on the way", "none", outcome(() -> {
+            test.run();
+            return "none";
+        }));
+    }
 
     /** Asks for an answer; numbers are compared by value, whether int or long. */
     void answers(String what, Object want, Call call) {
@@ -29,8 +46,9 @@ final class Due {
         asked++;
         if (!Objects.equals(want, got)) {
             wrong++;
-            if (wrong <= MOST_PRINTED) {
-                System.out.println(what + " answered " + got + ", due is " + want);
+            printed++;
+            if (printed <= MOST_PRINTED) {
+                System.out.println(sentence + what + " answered " + got + ", due is " + want);
             }
         }
     }
