@@ -635,6 +635,15 @@ public final class PromiseEdgesTest {
         areCritical(grid, "the second has a double", false, false, true, false);
         due.answers("asking drops nothing", 2, () -> grid.rank(0));
         due.answers("and leaves the second in use", true, () -> grid.use(1, true));
+        GridEstimator beside = Grids.of(5, "0-1 1-2 3-4");
+        Grids.flows(beside, 2, 1, 7);
+        areCritical(beside, "beside an island without a meter", true);
+        Grids.flows(beside, 0, 1, 7);
+        areCritical(beside, "beside an island that is not observable", true, false);
+        Grids.flows(beside, 1, 1, 7);
+        areCritical(beside, "beside a greater island", true, true, true);
+        Grids.flows(beside, 2, 1, 7);
+        areCritical(beside, "a double in its own island", false, true, true, false);
     }
 
     private static void areCritical(GridEstimator grid, String what, boolean... wanted) {
